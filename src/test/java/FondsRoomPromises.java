@@ -322,6 +322,8 @@ public final class FondsRoomPromises {
         due("refused(0, 3)", x.refused(0, 3), NONE);
         due("refused(0, -1)", x.refused(0, -1), NONE);
         due("about(0, 3)", x.about(0, 3), 3);
+        due("place(0)", x.place(0), 1);
+        due("place(4)", x.place(4), 1);
         due("held(0, 0)", x.held(0, 0), 0);
         due("held(0, 1)", x.held(0, 1), 1);
         due("held(0, 2)", x.held(0, 2), 4);
@@ -802,6 +804,34 @@ public final class FondsRoomPromises {
         due("count(4)", x.count(4), before + 2);
     }
 
+    private static void freeBehindAMishap() {
+        promise = "11 free behind a mishap";
+        FondsRoom x = room(2, 0, 1, 1, 3);
+        boxes(x, 1);
+        newReader(x, 1, 0);
+        x.ask(0, 0);
+        x.mishap(3, 0, 0);
+        x.mishap(3, 1, 0);
+        x.run(3);
+        due("place(0)", x.place(0), 0);
+        due("worker(1, 0, 0)", x.worker(1, 0, 0), NONE);
+        due("worker(1, 0, 1)", x.worker(1, 0, 1), 0);
+        due("count(11)", x.count(11), 1);
+
+        FondsRoom y = room(2, 0, 1, 1, 1);
+        boxes(y, 1);
+        newReader(y, 1, 0);
+        y.ask(0, 0);
+        y.copy(0, 0, 9, false);
+        y.mishap(5, 0, 0);
+        y.mishap(5, 2, 0);
+        y.run(5);
+        due("place(0)", y.place(0), 4);
+        due("worker(2, 0, 0)", y.worker(2, 0, 0), NONE);
+        due("worker(2, 0, 1)", y.worker(2, 0, 1), 0);
+        due("count(10)", y.count(10), 0);
+    }
+
     private static void mishapsOfCopyists() {
         promise = "11 mishaps of copyists";
         FondsRoom x = room(3, 0, 4, 1, 1);
@@ -977,6 +1007,27 @@ public final class FondsRoomPromises {
         due("about(0, 5)", x.about(0, 5), 3);
         due("about(4, 5)", x.about(4, 5), 5);
         due("count(7)", x.count(7), 5);
+    }
+
+    /** Behind is who came in a later turn, whatever the numbers are. */
+    private static void overtaken() {
+        promise = "13 overtaken";
+        FondsRoom x = room(1, 0, 1, 1, 1);
+        newReader(x, 3, 3);
+        newReader(x, 2, 0);
+        newReader(x, 1, 0);
+        newReader(x, 3, 1);
+        x.read(2, 2);
+        x.read(0, 1);
+        x.run(4);
+        due("seated(0)", x.seated(0), 0);
+        due("about(1, 8), by reader 0", x.about(1, 8), 1);
+        due("about(3, 8), reader 0 came ahead of it", x.about(3, 8), 0);
+        x.run(4);
+        due("about(1, 8), by reader 3, too", x.about(1, 8), 2);
+        due("about(1, 5)", x.about(1, 5), 5);
+        due("about(0, 8)", x.about(0, 8), 0);
+        due("about(2, 8)", x.about(2, 8), 0);
     }
 
     private static void whichDesk() {
@@ -1214,12 +1265,14 @@ public final class FondsRoomPromises {
         mishapsOfReaders();
         boxOnItsWayToNobody();
         mishapsOfFetchers();
+        freeBehindAMishap();
         mishapsOfCopyists();
         mishapsOfThoseThatAreNoMore();
         copyForNobody();
         run();
         orderOfATurn();
         desksByRank();
+        overtaken();
         whichDesk();
         leftBoxesGoHomeFirst();
         aboutNobody();
