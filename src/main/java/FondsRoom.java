@@ -407,17 +407,17 @@ public final class FondsRoom {
         Plan plan = reader.plan;
         for (int i = plan.begun; i < plan.size && reader.state == CAN_GO_ON; i++) {
             plan.begun = i + 1;
-            if (plan.kinds[i] == READ_STEP) {
+            Box box = isBox(plan.boxes[i]) ? boxes[plan.boxes[i]] : null;
+            // READ alone is told without a box.
+            if (box == null) {
                 reader.readLeft = plan.amounts[i];
                 reader.state = READS;
-            } else if (!isBox(plan.boxes[i])) {
-                continue;
             } else if (plan.kinds[i] == ASK_STEP) {
-                askFor(reader, boxes[plan.boxes[i]]);
+                askFor(reader, box);
             } else if (plan.kinds[i] == COPY_STEP) {
-                orderCopy(reader, boxes[plan.boxes[i]], plan.amounts[i], plan.urgents[i]);
+                orderCopy(reader, box, plan.amounts[i], plan.urgents[i]);
             } else {
-                giveBack(reader, boxes[plan.boxes[i]]);
+                giveBack(reader, box);
             }
         }
         if (reader.state == CAN_GO_ON) {

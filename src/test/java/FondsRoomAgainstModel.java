@@ -505,19 +505,21 @@ public final class FondsRoomAgainstModel {
             int w = draw(1, random.nextBoolean() ? 2 : 5);
             callPeople(f, c, w);
         }
-        int desks = draw(0, 6);
+        // A full room now and then, where every row is used to its end.
+        boolean full = random.nextInt(15) == 0;
+        int desks = full ? 13 : draw(0, 6);
         for (int i = 0; i < desks; i++) {
             callDesk(random.nextInt(3) == 0);
         }
-        int boxes = draw(0, 9);
+        int boxes = full ? 41 : draw(0, 9);
         int fonds = draw(0, 9);
         for (int i = 0; i < boxes; i++) {
             callBox(draw(0, fonds), random.nextInt(5) == 0);
         }
-        int readers = draw(0, 10);
+        int readers = full ? 21 : draw(0, 10);
         for (int i = 0; i < readers; i++) {
             callReader();
-            int steps = draw(0, 6);
+            int steps = full ? draw(4, 17) : draw(0, 6);
             for (int s = 0; s < steps; s++) {
                 callStep(i);
             }
