@@ -11,6 +11,7 @@ import java.util.Random;
 public final class FondsRoomAgainstModel {
     private static final int RUNS = 3000;
     private static final int CALLS = 60;
+    private static final int MOST_CALLS = 512;
 
     // ---- the second telling ----
 
@@ -464,7 +465,13 @@ public final class FondsRoomAgainstModel {
 
     // ---- the two side by side ----
 
-    private final FondsRoom x = new FondsRoom();
+    private interface Call {
+        int on(FondsRoom room);
+    }
+
+    private FondsRoom x = new FondsRoom();
+    private int callsOnIt = 0;
+    private final List<Call> history = new ArrayList<>();
     private final Model m = new Model();
     private final Random random;
     private final StringBuilder told = new StringBuilder("new FondsRoom()");
@@ -473,6 +480,25 @@ public final class FondsRoomAgainstModel {
 
     private FondsRoomAgainstModel(long seed) {
         random = new Random(seed);
+    }
+
+    /** What an object answers behind its 512th call is free: then the run so far is told to a new one. */
+    private FondsRoom room() {
+        if (callsOnIt == MOST_CALLS) {
+            x = new FondsRoom();
+            callsOnIt = history.size();
+            for (Call call : history) {
+                call.on(x);
+            }
+        }
+        callsOnIt++;
+        return x;
+    }
+
+    private int tell(Call call) {
+        FondsRoom room = room();
+        history.add(call);
+        return call.on(room);
     }
 
     private void same(String call, int got, int want) {
@@ -529,7 +555,7 @@ public final class FondsRoomAgainstModel {
     private void callPeople(int f, int c, int w) {
         say("people", f, c, w);
         boolean fine = f >= 1 && f <= 4 && c >= 1 && c <= 3 && w >= 1 && w <= 5 && m.turn == 0;
-        same("it", x.people(f, c, w) ? 1 : 0, fine ? 1 : 0);
+        same("it", tell(room -> room.people(f, c, w) ? 1 : 0), fine ? 1 : 0);
         if (fine) {
             m.fetchers = Model.hands(f);
             m.copyists = Model.hands(c);
@@ -540,7 +566,7 @@ public final class FondsRoomAgainstModel {
     private void callDesk(boolean watched) {
         say("desk", watched ? 1 : 0);
         boolean fine = m.turn == 0 && m.desks.size() < 12;
-        same("it", x.desk(watched), fine ? m.desks.size() : -1);
+        same("it", tell(room -> room.desk(watched)), fine ? m.desks.size() : -1);
         if (fine) {
             m.desks.add(watched);
         }
@@ -549,7 +575,7 @@ public final class FondsRoomAgainstModel {
     private void callBox(int fonds, boolean precious) {
         say("box", fonds, precious ? 1 : 0);
         boolean fine = m.turn == 0 && m.boxes.size() < 40 && fonds >= 0 && fonds <= 9;
-        same("it", x.box(fonds, precious), fine ? m.boxes.size() : -1);
+        same("it", tell(room -> room.box(fonds, precious)), fine ? m.boxes.size() : -1);
         if (fine) {
             m.boxes.add(new int[] {fonds, precious ? 1 : 0});
             m.places.add(0);
@@ -563,7 +589,7 @@ public final class FondsRoomAgainstModel {
         say("reader", arrival, rank, watched ? 1 : 0);
         boolean fine = arrival >= 1 && arrival <= 1000 && rank >= 0 && rank <= 3 && m.persons.size() < 20
             && (m.bell == -1 || m.turn < m.bell);
-        same("it", x.reader(arrival, rank, watched), fine ? m.persons.size() : -1);
+        same("it", tell(room -> room.reader(arrival, rank, watched)), fine ? m.persons.size() : -1);
         if (fine) {
             Person p = new Person();
             p.number = m.persons.size();
@@ -574,19 +600,28 @@ public final class FondsRoomAgainstModel {
         }
     }
 
-    private void callStep(int r) {
+    private int drawBoxFor(int r) {
         int box = drawOf(m.boxes.size());
         // Steps upon a box that an earlier one asked for are what makes rooms busy.
         if (r >= 0 && r < m.persons.size() && !m.persons.get(r).steps.isEmpty() && random.nextInt(4) > 0) {
-            box = m.persons.get(r).steps.get(random.nextInt(m.persons.get(r).steps.size())).box;
+            List<Step> steps = m.persons.get(r).steps;
+            return steps.get(random.nextInt(steps.size())).box;
         }
+        return box;
+    }
+
+    private void callStep(int r) {
+        int box = drawBoxFor(r);
         int amount = random.nextInt(20) == 0 ? draw(-1, 52) : draw(1, 6);
         boolean urgent = random.nextInt(3) > 0;
         char kind = "aaaarcccbb".charAt(random.nextInt(10));
         say(String.valueOf(kind), r, box, amount, urgent ? 1 : 0);
-        boolean got = kind == 'a' ? x.ask(r, box) : kind == 'r' ? x.read(r, amount)
-            : kind == 'c' ? x.copy(r, box, amount, urgent) : x.back(r, box);
-        same("it", got ? 1 : 0, m.addStep(r, kind, box, amount, urgent) ? 1 : 0);
+        same("it", tell(room -> step(room, kind, r, box, amount, urgent) ? 1 : 0), m.addStep(r, kind, box, amount, urgent) ? 1 : 0);
+    }
+
+    private static boolean step(FondsRoom room, char kind, int r, int box, int amount, boolean urgent) {
+        return kind == 'a' ? room.ask(r, box) : kind == 'r' ? room.read(r, amount)
+            : kind == 'c' ? room.copy(r, box, amount, urgent) : room.back(r, box);
     }
 
     private void callMishap() {
@@ -596,7 +631,7 @@ public final class FondsRoomAgainstModel {
         int who = drawOf(many);
         say("mishap", turn, kind, who);
         boolean fine = turn > m.turn && who >= 0 && who < many && m.mishaps.size() < 30;
-        same("it", x.mishap(turn, kind, who) ? 1 : 0, fine ? 1 : 0);
+        same("it", tell(room -> room.mishap(turn, kind, who) ? 1 : 0), fine ? 1 : 0);
         if (fine) {
             m.mishaps.add(new int[] {turn, kind, who});
         }
@@ -606,7 +641,7 @@ public final class FondsRoomAgainstModel {
         int turn = m.turn + draw(-1, 30);
         say("bell", turn);
         boolean fine = turn > m.turn && m.bell == -1;
-        same("it", x.bell(turn) ? 1 : 0, fine ? 1 : 0);
+        same("it", tell(room -> room.bell(turn) ? 1 : 0), fine ? 1 : 0);
         if (fine) {
             m.bell = turn;
         }
@@ -619,7 +654,7 @@ public final class FondsRoomAgainstModel {
         for (int i = 0; fine && i < n; i++) {
             m.pass();
         }
-        same("it", x.run(n), fine ? m.turn : -1);
+        same("it", tell(room -> room.run(n)), fine ? m.turn : -1);
     }
 
     private void compareReaders() {
@@ -627,7 +662,7 @@ public final class FondsRoomAgainstModel {
             boolean is = r >= 0 && r < m.persons.size();
             int[] about = is ? m.about(m.persons.get(r)) : null;
             for (int what = 0; what < 12; what++) {
-                same("about(" + r + ", " + what + ")", x.about(r, what), is ? about[what] : -1);
+                same("about(" + r + ", " + what + ")", room().about(r, what), is ? about[what] : -1);
             }
             List<Integer> has = new ArrayList<>();
             List<Integer> rules = new ArrayList<>();
@@ -637,10 +672,10 @@ public final class FondsRoomAgainstModel {
                 rules = m.persons.get(r).rules;
             }
             for (int i = -1; i < 5; i++) {
-                same("held(" + r + ", " + i + ")", x.held(r, i), i >= 0 && i < has.size() ? has.get(i) : -1);
+                same("held(" + r + ", " + i + ")", room().held(r, i), i >= 0 && i < has.size() ? has.get(i) : -1);
             }
             for (int i = -1; i < 17; i++) {
-                same("refused(" + r + ", " + i + ")", x.refused(r, i), i >= 0 && i < rules.size() ? rules.get(i) : -1);
+                same("refused(" + r + ", " + i + ")", room().refused(r, i), i >= 0 && i < rules.size() ? rules.get(i) : -1);
             }
         }
     }
@@ -648,19 +683,19 @@ public final class FondsRoomAgainstModel {
     private void compareThings() {
         for (int b = -1; b <= m.boxes.size(); b++) {
             boolean is = b >= 0 && b < m.boxes.size();
-            same("place(" + b + ")", x.place(b), is ? m.places.get(b) : -1);
-            same("whose(" + b + ")", x.whose(b), is ? m.whose(b) : -1);
+            same("place(" + b + ")", room().place(b), is ? m.places.get(b) : -1);
+            same("whose(" + b + ")", room().whose(b), is ? m.whose(b) : -1);
         }
         for (int d = -1; d <= m.desks.size(); d++) {
-            same("seated(" + d + ")", x.seated(d), m.seated(d));
+            same("seated(" + d + ")", room().seated(d), m.seated(d));
         }
         for (int kind = 0; kind < 4; kind++) {
             Hand[] hands = kind == 1 ? m.fetchers : kind == 2 ? m.copyists : new Hand[0];
             for (int who = -1; who < 5; who++) {
                 boolean is = who >= 0 && who < hands.length;
-                same("worker(" + kind + ", " + who + ", 0)", x.worker(kind, who, 0), is ? hands[who].box : -1);
-                same("worker(" + kind + ", " + who + ", 1)", x.worker(kind, who, 1), is ? hands[who].left : -1);
-                same("worker(" + kind + ", " + who + ", 2)", x.worker(kind, who, 2), -1);
+                same("worker(" + kind + ", " + who + ", 0)", room().worker(kind, who, 0), is ? hands[who].box : -1);
+                same("worker(" + kind + ", " + who + ", 1)", room().worker(kind, who, 1), is ? hands[who].left : -1);
+                same("worker(" + kind + ", " + who + ", 2)", room().worker(kind, who, 2), -1);
             }
         }
     }
@@ -669,15 +704,15 @@ public final class FondsRoomAgainstModel {
         for (int kind = -1; kind < 4; kind++) {
             List<Integer> line = m.queue(kind);
             boolean is = kind >= 0 && kind < 3;
-            same("queue(" + kind + ", -1)", x.queue(kind, -1), is ? line.size() : -1);
-            same("queue(" + kind + ", -2)", x.queue(kind, -2), -1);
+            same("queue(" + kind + ", -1)", room().queue(kind, -1), is ? line.size() : -1);
+            same("queue(" + kind + ", -2)", room().queue(kind, -2), -1);
             for (int i = 0; i <= line.size(); i++) {
-                same("queue(" + kind + ", " + i + ")", x.queue(kind, i), i < line.size() ? line.get(i) : -1);
+                same("queue(" + kind + ", " + i + ")", room().queue(kind, i), i < line.size() ? line.get(i) : -1);
             }
         }
         int[] counts = m.counts();
         for (int what = 0; what < counts.length; what++) {
-            same("count(" + what + ")", x.count(what), counts[what]);
+            same("count(" + what + ")", room().count(what), counts[what]);
         }
         int kept = Math.min(400, m.events.size());
         for (; seenEvents < kept; seenEvents++) {
@@ -691,7 +726,7 @@ public final class FondsRoomAgainstModel {
 
     private int eventOf(int i, int what) {
         try {
-            return x.event(i, what);
+            return room().event(i, what);
         } catch (NoSuchElementException e) {
             return Integer.MIN_VALUE;
         }

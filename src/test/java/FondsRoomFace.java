@@ -44,9 +44,20 @@ public final class FondsRoomFace {
         for (Constructor<?> made : FondsRoom.class.getDeclaredConstructors()) {
             seen.add(made.toString());
         }
+        Set<String> names = new TreeSet<>();
+        for (Method method : FondsRoom.class.getMethods()) {
+            names.add(method.getName());
+        }
         for (Method method : FondsRoom.class.getDeclaredMethods()) {
-            if (!Modifier.isPrivate(method.getModifiers())) {
+            // No private method bears the name of a public one.
+            if (!Modifier.isPrivate(method.getModifiers()) || names.contains(method.getName())) {
                 seen.add(method.toString());
+            }
+        }
+        for (Class<?> inside : FondsRoom.class.getDeclaredClasses()) {
+            int how = inside.getModifiers();
+            if (!Modifier.isStatic(how) || Modifier.isPublic(how) || Modifier.isProtected(how)) {
+                seen.add(inside.toString());
             }
         }
         Set<String> due = new TreeSet<>(Arrays.asList(FACE));
