@@ -528,6 +528,31 @@ public final class FondsRoomPromises {
         due("worker(2, 0, 1)", x.worker(2, 0, 1), 0);
     }
 
+    private static void copiedBoxIsAtTheDeskAgain() {
+        promise = "8 behind its copy a box is at the desk again";
+        FondsRoom x = room(1, 0, 1, 1, 1);
+        boxes(x, 1);
+        newReader(x, 1, 0);
+        x.ask(0, 0);
+        x.copy(0, 0, 2, false);
+        x.read(0, 2);
+        x.run(4);
+        due("place(0)", x.place(0), 6);
+        due("about(0, 0)", x.about(0, 0), 4);
+        x.run(1);
+        due("place(0), the copy is made", x.place(0), 1);
+        due("about(0, 0)", x.about(0, 0), 3);
+        due("about(0, 3)", x.about(0, 3), 1);
+        due("held(0, 0)", x.held(0, 0), 0);
+        due("whose(0)", x.whose(0), 0);
+        due("queue(2, -1)", x.queue(2, NONE), 0);
+        x.run(1);
+        due("place(0), while it reads", x.place(0), 1);
+        x.run(1);
+        due("about(0, 0)", x.about(0, 0), 5);
+        due("place(0)", x.place(0), 4);
+    }
+
     // ---- 9: back ----
 
     private static void backBoxes() {
@@ -925,6 +950,38 @@ public final class FondsRoomPromises {
         due("about(1, 0)", x.about(1, 0), 5);
     }
 
+    /** The one fetcher is on a long way, so that the box can be seen where it was LEFT. */
+    private static void mishapOfACopyForNobody() {
+        promise = "11 a mishap in a copy for nobody";
+        FondsRoom x = room(2, 0, 1, 1, 5);
+        boxes(x, 2);
+        newReader(x, 1, 0);
+        newReader(x, 6, 0);
+        x.ask(0, 0);
+        x.copy(0, 0, 30, true);
+        x.ask(1, 1);
+        x.mishap(8, 0, 0);
+        x.mishap(9, 2, 0);
+        x.run(8);
+        due("place(0), for nobody", x.place(0), 6);
+        due("worker(2, 0, 1)", x.worker(2, 0, 1), 29);
+        due("worker(1, 0, 0)", x.worker(1, 0, 0), 1);
+        x.run(1);
+        due("place(0), behind the mishap", x.place(0), 2);
+        due("whose(0)", x.whose(0), NONE);
+        due("worker(2, 0, 0)", x.worker(2, 0, 0), NONE);
+        due("worker(2, 0, 1)", x.worker(2, 0, 1), 0);
+        due("queue(2, -1)", x.queue(2, NONE), 0);
+        due("count(10)", x.count(10), 0);
+        due("count(14), a mishap's too", x.count(14), 1);
+        x.run(2);
+        due("place(0), no fetcher is free", x.place(0), 2);
+        x.run(1);
+        due("place(0)", x.place(0), 4);
+        x.run(5);
+        due("place(0)", x.place(0), 0);
+    }
+
     // ---- 12: run ----
 
     private static void run() {
@@ -959,6 +1016,27 @@ public final class FondsRoomPromises {
         x.run(1);
         due("about(1, 0), the mishap is ahead of the bell", x.about(1, 0), 7);
         due("count(4)", x.count(4), 6);
+    }
+
+    private static void fetchersComeBeforeCopyists() {
+        promise = "12 c before d, the fetchers by numbers";
+        FondsRoom x = room(3, 0, 2, 1, 1);
+        boxes(x, 3);
+        for (int i = 0; i < 3; i++) {
+            newReader(x, 1, 0);
+        }
+        x.ask(0, 0);
+        x.copy(0, 0, 1, false);
+        x.read(1, 1);
+        x.ask(1, 1);
+        x.ask(2, 2);
+        x.back(2, 2);
+        x.run(4);
+        dueEvents(x,
+            row(1, 0, 1, 1), row(1, 1, 1, 1), row(1, 2, 1, 1), row(1, 0, 2, 0), row(1, 1, 2, 1), row(1, 2, 2, 2),
+            row(2, 0, 3, 0), row(2, 2, 3, 2),
+            row(3, 0, 5, 0), row(3, 2, 5, 2), row(3, 1, 3, 1), row(3, 2, 7, 2), row(3, 2, 8, 5),
+            row(4, NONE, 9, 2), row(4, 1, 5, 1), row(4, 0, 6, 0), row(4, 0, 8, 5), row(4, 1, 8, 5));
     }
 
     private static void desksByRank() {
@@ -1258,6 +1336,7 @@ public final class FondsRoomPromises {
         copyOrder();
         onlyUrgentCopies();
         copyForAReader();
+        copiedBoxIsAtTheDeskAgain();
         backBoxes();
         bellTelling();
         bellRings();
@@ -1269,8 +1348,10 @@ public final class FondsRoomPromises {
         mishapsOfCopyists();
         mishapsOfThoseThatAreNoMore();
         copyForNobody();
+        mishapOfACopyForNobody();
         run();
         orderOfATurn();
+        fetchersComeBeforeCopyists();
         desksByRank();
         overtaken();
         whichDesk();
